@@ -30,6 +30,7 @@ public final class PromisesTest {
         restFailsSingular();
         restFailsStuck();
         restFailsWild();
+        restFailsWildAtTheFirst();
         restIsSpared();
         restThatFailsLeavesAll();
         emptyCircuit();
@@ -430,6 +431,18 @@ public final class PromisesTest {
         due(9, "count(18)", y.count(18), 2);
     }
 
+    private static void restFailsWildAtTheFirst() {
+        StampedWires x = new StampedWires();
+        x.part(4, 0, 3, 1);
+        x.level(0, 999, 999);
+        x.part(7, 2, 0, 9999);
+        x.control(1, 3, 0);
+        x.part(7, 1, 0, 9999);
+        x.control(2, 2, 0);
+        due(9, "rest()", x.rest(), 3);
+        due(9, "count(10): node 1 is the UNKNOWN 0", x.count(10), 0);
+    }
+
     private static void restIsSpared() {
         StampedWires x = junction(20);
         due(9, "rest() of a JUNCTION at 20", x.rest(), 0);
@@ -466,11 +479,14 @@ public final class PromisesTest {
         due(9, "count(4)", x.count(4), 1);
         due(9, "count(3)", x.count(3), 4);
         dueVolt(9, x, 1, 5.0);
-        x.level(0, 6, 6);
+        x.level(0, 5, 5);
         int rounds = x.count(12);
+        due(9, "step() goes on from the UNKNOWNS and the guess 5", x.step(), 1);
+        due(9, "count(12): nothing changes, one ROUND does", x.count(12), rounds + 1);
+        x.level(0, 6, 6);
         due(9, "step() goes on from the guess 5", x.step(), 1);
         // One arrives at 6, one changes the current, one changes nothing.
-        due(9, "count(12)", x.count(12), rounds + 3);
+        due(9, "count(12)", x.count(12), rounds + 4);
     }
 
     private static void emptyCircuit() {
@@ -733,6 +749,20 @@ public final class PromisesTest {
         for (int w = 4; w < 12; w++) due(12, "told(0, " + w + ")", x.told(0, w), w == 7 ? 1 : 0);
         x.rest();
         dueVolt(12, x, 1, 0.0);
+
+        StampedWires y = charged();
+        y.rest();
+        y.run(3);
+        due(12, "count(11)", y.count(11), 0);
+        due(12, "clear()", y.clear(), 3);
+        due(12, "count(11) behind it", y.count(11), -1);
+        y.part(7, 1, 0, 1);
+        y.control(0, 2, 3);
+        y.clear();
+        y.part(7, 1, 0, 1);
+        due(12, "told(0, 10): c is as at first", y.told(0, 10), 0);
+        due(12, "told(0, 11): d is as at first", y.told(0, 11), 0);
+        due(12, "count(2)", y.count(2), 2);
     }
 
     private static void voltages() {
