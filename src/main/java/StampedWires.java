@@ -484,7 +484,9 @@ public final class StampedWires {
 
         /** What the flow of a JUNCTION at its guess u has besides g * u. */
         double offsetAt(double u) {
-            return u > 0 ? strength() * u * u - slopeAt(u) * u : 0;
+            double k = strength();
+            double g = 2 * k * u;
+            return u > 0 ? k * u * u - g * u : 0;
         }
     }
 
