@@ -1,23 +1,5 @@
-import java.util.NoSuchElementException;
-
 /** The promises one by one: ordinary inputs, edges, wrong inputs; each number due is worked out from the document. */
-public final class PromisesTest {
-    private static final double LEAK = 1 / 1048576.0;
-    private static final long THREW = Long.MIN_VALUE;
-    private static final int[] FAR = {Integer.MIN_VALUE, -1, Integer.MAX_VALUE};
-    private static int wrong = 0;
-
-    private static void due(int promise, String what, long got, long want) {
-        if (got != want) {
-            wrong++;
-            System.out.println("promise " + promise + ": " + what + " answered " + got + ", due is " + want);
-        }
-    }
-
-    private static void due(int promise, String what, boolean got, boolean want) {
-        due(promise, what, got ? 1 : 0, want ? 1 : 0);
-    }
-
+public final class PromisesTest extends Due {
     public static void main(String[] args) {
         aNewObject();
         parts();
@@ -62,88 +44,7 @@ public final class PromisesTest {
         shifts();
         stepsAhead();
         zerosAndSmallest();
-        System.out.println(wrong == 0 ? "all promises are kept" : wrong + " answers are not as due");
-        if (wrong != 0) System.exit(1);
-    }
-
-    // ---- what a call answers, THREW where it throws
-
-    private static long volt(StampedWires x, int node, int what) {
-        try { return x.volt(node, what); } catch (NoSuchElementException e) { return THREW; }
-    }
-
-    private static long flow(StampedWires x, int part, int what) {
-        try { return x.flow(part, what); } catch (NoSuchElementException e) { return THREW; }
-    }
-
-    private static long charge(StampedWires x, int part, int what) {
-        try { return x.charge(part, what); } catch (NoSuchElementException e) { return THREW; }
-    }
-
-    private static long balance(StampedWires x, int node, int what) {
-        try { return x.balance(node, what); } catch (NoSuchElementException e) { return THREW; }
-    }
-
-    private static long wave(StampedWires x, int part, int time, int what) {
-        try { return x.wave(part, time, what); } catch (NoSuchElementException e) { return THREW; }
-    }
-
-    private static long entry(StampedWires x, int e, int u, int what) {
-        try { return x.entry(e, u, what); } catch (NoSuchElementException ex) { return THREW; }
-    }
-
-    private static long ahead(StampedWires x, int node, int ticks, int method, int what) {
-        try { return x.ahead(node, ticks, method, what); } catch (NoSuchElementException e) { return THREW; }
-    }
-
-    private static int upper(double x) { return (int) (Double.doubleToRawLongBits(x) >> 32); }
-
-    private static int lower(double x) { return (int) Double.doubleToRawLongBits(x); }
-
-    private static void dueVolt(int promise, StampedWires x, int node, double v) {
-        due(promise, "volt(" + node + ", 0)", volt(x, node, 0), upper(v));
-        due(promise, "volt(" + node + ", 1)", volt(x, node, 1), lower(v));
-    }
-
-    private static void dueFlow(StampedWires x, int part, double v) {
-        due(15, "flow(" + part + ", 0)", flow(x, part, 0), upper(v));
-        due(15, "flow(" + part + ", 1)", flow(x, part, 1), lower(v));
-    }
-
-    private static void dueEntry(StampedWires x, int e, int u, double v) {
-        due(22, "entry(" + e + ", " + u + ", 0)", entry(x, e, u, 0), upper(v));
-        due(22, "entry(" + e + ", " + u + ", 1)", entry(x, e, u, 1), lower(v));
-    }
-
-    // ---- circuits
-
-    /** A CURRENT (number 0) into node 1 and a RESISTOR (number 1) from it to the GROUND. */
-    private static StampedWires one(int current, int resistor) {
-        StampedWires x = new StampedWires();
-        x.part(4, 0, 1, 1);
-        x.level(0, current, current);
-        x.part(0, 1, 0, resistor);
-        return x;
-    }
-
-    /** A VOLTAGE right across a JUNCTION whose K is 1. */
-    private static StampedWires junction(int voltage) {
-        StampedWires x = new StampedWires();
-        x.part(3, 1, 0, 1);
-        x.level(0, voltage, voltage);
-        x.part(5, 1, 0, 64);
-        return x;
-    }
-
-    /** Node 1 charged by a CURRENT that rises to 8 from 0 to 1: CAPACITOR 0 (C is 1), RESISTOR 1, CURRENT 2. */
-    private static StampedWires charged() {
-        StampedWires x = new StampedWires();
-        x.part(1, 1, 0, 16);
-        x.part(0, 1, 0, 1);
-        x.part(4, 0, 1, 1);
-        x.level(2, 0, 8);
-        x.times(2, 0, 1, 999, 0);
-        return x;
+        end("all promises are kept");
     }
 
     // ---- the promises
@@ -389,17 +290,6 @@ public final class PromisesTest {
         due(9, "count(19)", x.count(19), 32);
         due(9, "count(4)", x.count(4), 0);
         due(9, "count(13)", x.count(13), 1);
-    }
-
-    /** Each GAIN into a node with nothing but its leak makes 9999 / 256 * 1048576 of what it goes by. */
-    private static StampedWires gains() {
-        StampedWires x = new StampedWires();
-        x.part(4, 0, 1, 1);
-        x.part(7, 2, 0, 9999);
-        x.control(1, 1, 0);
-        x.part(7, 3, 0, 9999);
-        x.control(2, 2, 0);
-        return x;
     }
 
     private static void restFailsWild() {
