@@ -14,6 +14,8 @@ public final class SolvingEdgesTest extends Due {
         orderGoesWithPartsAndControls();
         orderStaysWithAllElse();
         firstEquationThenFirstUnknown();
+        leastProduct();
+        entriesThatAnOrderMakes();
         oneSixtyFourthOfTheGreatest();
         leastSizeOfAPivot();
         keptAtOnePartIn4096();
@@ -110,8 +112,11 @@ public final class SolvingEdgesTest extends Due {
             StampedWires x = junction(3);
             x.value(1, n);
             due(9, "rest()", x.rest(), 0);
-            dueEntry(x, 0, 0, LEAK + 2 * (n / 64.0) * 3);
-            dueFlow(x, 1, n / 64.0 * 3 * 3);
+            double k = n / 64.0;
+            double g = 2 * k * 3;
+            dueEntry(x, 0, 0, LEAK + g);
+            dueFlow(x, 1, k * 3 * 3);
+            dueFlow(x, 0, 0 - (k * 3 * 3 - g * 3) - (LEAK + g) * 3);
         }
     }
 
@@ -308,6 +313,50 @@ public final class SolvingEdgesTest extends Due {
         due(23, "pivot(0, 1)", y.pivot(0, 1), 2);
     }
 
+    // "the least product of how many ENTRIES left its equation and its UNKNOWN have besides it"
+    private static void leastProduct() {
+        // NODE 1 with 2, 3, 4 hung on it is held by a VOLTAGE; the SWITCH makes (0, 4) too small to be a pivot.
+        // (4, 0) has no ENTRY besides it in its equation, though four for its UNKNOWN: 0. (1, 1) has 1 * 1.
+        StampedWires x = new StampedWires();
+        for (int v = 2; v < 5; v++) x.part(0, 1, v, 1);
+        x.part(6, 1, 0, 9999);
+        x.level(3, 1, 1);
+        x.part(3, 1, 0, 1);
+        due(9, "rest()", x.rest(), 0);
+        due(23, "pivot(0, 0)", x.pivot(0, 0), 4);
+        due(23, "pivot(0, 1)", x.pivot(0, 1), 0);
+        // Apart from 1 and 2, NODE 3 is held by a VOLTAGE: (2, 3) has one besides in its equation, none for its UNKNOWN: 0.
+        StampedWires y = new StampedWires();
+        y.part(0, 1, 2, 1);
+        y.part(3, 3, 0, 1);
+        due(9, "rest()", y.rest(), 0);
+        due(23, "pivot(0, 0)", y.pivot(0, 0), 2);
+        due(23, "pivot(0, 1)", y.pivot(0, 1), 3);
+        due(24, "fills()", y.fills(), 0);
+    }
+
+    // "(e, j) is (e, j) - f * (p, j) (0 ahead, if it was not there, now it is)"; "FILLS: how many ENTRIES an ORDER made"
+    private static void entriesThatAnOrderMakes() {
+        // A ring of 1 ohm each from NODE 1 over n others, 4 ampere into NODE 1, out through 1 ohm from NODE n.
+        for (int n = 3; n <= 8; n++) {
+            StampedWires x = new StampedWires();
+            for (int v = 1; v <= n; v++) x.part(0, v, v % n + 1, 1);
+            x.part(4, 0, 1, 1);
+            x.level(n, 4, 4);
+            x.part(0, n, 0, 1);
+            due(9, "rest()", x.rest(), 0);
+            // Each NODE that goes first joins its two neighbours; the last three are joined to each other already.
+            due(24, "fills() of a ring of " + n, x.fills(), 2 * (n - 3));
+            for (int v = 1; v <= n; v++) {
+                // From 1 to n straight and over all the others: 1 and n - 1 ohm side by side.
+                double whole = 4.0 * (n - 1) / n;
+                double due = 4 + (v == n ? 0 : whole * (n - v) / (n - 1));
+                due(24, "milli(" + v + ") of a ring of " + n, Math.abs(x.milli(v) - 1000 * due) < 2, true);
+                due(17, "balance(" + v + ") is all but 0", Math.abs(Double.longBitsToDouble((long) x.balance(v, 0) << 32)) < 1e-12, true);
+            }
+        }
+    }
+
     /** NODE 1 goes by 2 and by 3, of which each goes by all: nine ENTRIES, each of the product 4. */
     private static StampedWires nine(int by2, int by3) {
         StampedWires x = new StampedWires();
@@ -383,19 +432,22 @@ public final class SolvingEdgesTest extends Due {
         due(23, "pivot(0, 0)", x.pivot(0, 0), 1);
         due(23, "pivot(1, 0)", x.pivot(1, 0), 0);
 
-        // 9999 / 256 / 4096 lies between 1 / 105 and 1 / 104.
-        for (int n : new int[] {104, 105}) {
+        // 4096 times what a RESISTOR of 105 and the leak let through is 9987.4 / 256.
+        for (int n = 9986; n <= 9989; n++) {
             StampedWires y = new StampedWires();
-            y.part(7, 1, 0, 9999);
+            y.part(7, 1, 0, 256);
             y.control(0, 2, 0);
             y.part(0, 1, 0, 1);
             y.part(0, 2, 0, 1);
             y.rest();
             due(23, "pivot(0, 0)", y.pivot(0, 0), 0);
-            y.value(1, n);
+            y.value(0, n);
+            y.value(1, 105);
             y.step();
-            due(21, "count(13) with " + n, y.count(13), n == 104 ? 1 : 2);
-            due(23, "pivot(0, 0) with " + n, y.pivot(0, 0), n == 104 ? 0 : 1);
+            boolean kept = LEAK + 1.0 / 105 >= n / 256.0 / 4096;
+            due(21, "kept with " + n, kept, n < 9988);
+            due(21, "count(13) with " + n, y.count(13), n < 9988 ? 1 : 2);
+            due(23, "pivot(0, 0) with " + n, y.pivot(0, 0), n < 9988 ? 0 : 1);
         }
     }
 
@@ -490,6 +542,14 @@ public final class SolvingEdgesTest extends Due {
             due(21, "count(19) at " + c[0], x.count(19), c[1]);
             due(21, "count(12) at " + c[0], x.count(12), c[2]);
         }
+        // A JUNCTION that is told first is one, too.
+        StampedWires first = new StampedWires();
+        first.part(5, 1, 0, 64);
+        first.part(3, 1, 0, 1);
+        first.level(1, 3, 3);
+        due(9, "rest()", first.rest(), 0);
+        dueCounts(21, "of a JUNCTION told first", first, 12, 5, 1, 0, 0, 0, 0, 0, 2);
+        dueFlow(first, 0, 9.0);
         // Each JUNCTION in each ROUND is counted.
         StampedWires x = junction(3);
         x.part(5, 1, 0, 64);
@@ -517,6 +577,25 @@ public final class SolvingEdgesTest extends Due {
                 dueVolt(10, x, 1, sign * 127.0);
                 due(21, "count(12) from " + by + " / 512", x.count(12) - rounds, by == 511 ? 1 : 2);
             }
+        }
+        // RISE, from, to: 1 / 512 is more than (1 + 126) / 65536; 3 / 467 and 3 / 499 are but a 65536th more than they may be.
+        int[][] cases = {{512, 511, 126}, {467, 464, 420}, {499, 496, 393}, {467, 465, 420}};
+        for (int[] c : cases) {
+            StampedWires x = new StampedWires();
+            x.part(3, 1, 0, 1);
+            x.times(0, 0, c[0], 0, 0);
+            x.level(0, c[2] - 1, c[2] - 1 + c[1]);
+            x.part(5, 2, 0, 64);
+            x.rest();
+            due(21, "count(12)", x.count(12), 2);
+            x.step();
+            due(21, "count(12)", x.count(12), 4);
+            x.level(0, c[2], c[2]);
+            x.step();
+            due(21, "count(12) to " + c[2], x.count(12), c[1] == 465 ? 5 : 6);
+            // From 0, not from what there was: two ROUNDS as at first.
+            x.rest();
+            due(21, "count(12) of a REST again", x.count(12), c[1] == 465 ? 7 : 8);
         }
         // Without any JUNCTION one ROUND does, however much differs.
         StampedWires y = one(999, 9999);

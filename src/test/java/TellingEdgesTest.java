@@ -380,6 +380,9 @@ public final class TellingEdgesTest extends Due {
         // What was told of PARTS is forgotten, too.
         for (int kind : new int[] {3, 7, 4}) x.part(kind, 1, 0, 2);
         for (int i = 0; i < 3; i++) for (int w = 4; w < 12; w++) due(12, "told(" + i + ", " + w + ")", x.told(i, w), w == 7 && i != 1 ? 1 : 0);
+        // Nor is there a JUNCTION any more: one ROUND does.
+        x.level(2, 5, 5);
+        x.part(0, 1, 0, 1);
         due(12, "rest()", x.rest(), 0);
         dueCounts(12, "behind clear() and rest()", x, 12, 1, 1, 0, 0, 0, 0, 0, 0);
         dueSteps("behind clear()", x, 1, 1, 1, 1, 2);

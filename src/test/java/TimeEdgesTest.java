@@ -18,9 +18,11 @@ public final class TimeEdgesTest extends Due {
         stepFailsAtOnce();
         freshIsAlwaysEuler();
         gearByUnlikeSteps();
+        coilsAndCapacitorsByEachMethod();
         runOnBothSides();
         runTillOneFails();
         aheadOnBothSides();
+        aheadFromWhatThereIs();
         aheadTillOneFails();
         stepsOnBothSides();
         stepsTillOneFails();
@@ -417,6 +419,87 @@ public final class TimeEdgesTest extends Due {
         dueCounts(21, "at the BREAK 6", x, 3, 6, 1, 1, 1);
     }
 
+    /** A and B of one, told in the words of the document; A first, then B. */
+    private static double[] factors(int method, int h, int h1, double x1, double x2, double d1) {
+        double r = (double) h / h1;
+        if (method == 0) return new double[] {1.0 / h, 0 - 1.0 / h * x1};
+        if (method == 1) return new double[] {2.0 / h, 0 - 2.0 / h * x1 - d1};
+        return new double[] {(1 + 2 * r) / (1 + r) / h, (0 - (1 + r) * x1 + r * r / (1 + r) * x2) / h};
+    }
+
+    // A is 1 / h, 2 / h, ..; "COIL i: .. (i, i) - L * A, RIGHT i + L * B"; "CAPACITOR: C * A as G, then C * B as J"
+    private static void coilsAndCapacitorsByEachMethod() {
+        for (int method = 0; method < 3; method++) {
+            for (int n : new int[] {1, 40, 9999}) {
+                coilSteps(method, n);
+                capacitorSteps(method, n);
+            }
+        }
+    }
+
+    /** A COIL alone takes what a CURRENT gives, but for the leak: h grows from STEP to STEP. */
+    private static void coilSteps(int method, int n) {
+        StampedWires x = new StampedWires();
+        x.part(4, 0, 1, 1);
+        x.times(0, 9999, 1, 0, 0);
+        x.level(0, 3, 3);
+        x.part(2, 1, 0, n);
+        x.method(method);
+        x.tolerance(1024);
+        x.rest();
+        x.level(0, 4, 4);
+        double l = n / 16.0, x1 = 3, x2 = 0, d1 = 0;
+        dueFlow(x, 1, x1);
+        int h1 = 1;
+        int[] all = {1, 1, 2, 4, 8, 16, 32, 64, 64};
+        for (int k = 0; k < all.length; k++) {
+            int h = all[k];
+            double[] f = factors(k == 0 ? 0 : method, h, h1, x1, x2, d1);
+            // The pivots are (0, 1), then (1, 0), from the REST on.
+            double v = (l * f[1] - -(l * f[0]) * 4) / (1 - -(l * f[0]) * LEAK);
+            double i = 4 - LEAK * v;
+            due(10, "step() of a COIL by " + method, x.step(), h);
+            dueVolt(10, x, 1, v);
+            dueFlow(x, 1, i);
+            dueCharge(x, 1, l * i);
+            dueEntry(x, 1, 1, 0 - l * f[0]);
+            x2 = x1;
+            x1 = i;
+            d1 = f[0] * i + f[1];
+            h1 = h;
+        }
+    }
+
+    private static void capacitorSteps(int method, int n) {
+        StampedWires x = new StampedWires();
+        x.part(4, 0, 1, 1);
+        x.times(0, 9999, 1, 0, 0);
+        x.level(0, 3, 3);
+        x.part(1, 1, 0, n);
+        x.part(0, 1, 0, 1);
+        x.method(method);
+        x.tolerance(1024);
+        x.rest();
+        x.level(0, 4, 4);
+        double c = n / 16.0, x1 = 3 / (LEAK + c * 0 + 1.0), x2 = 0, d1 = 0;
+        dueVolt(9, x, 1, x1);
+        int h1 = 1;
+        for (int k = 0; k < 9; k++) {
+            int h = x.step();
+            double[] f = factors(k == 0 ? 0 : method, h, h1, x1, x2, d1);
+            double v = (0 - c * f[1] + 4) / (LEAK + c * f[0] + 1.0);
+            dueVolt(10, x, 1, v);
+            x2 = x1;
+            x1 = v;
+            d1 = f[0] * v + f[1];
+            h1 = h;
+            dueFlow(x, 1, c * d1);
+            dueCharge(x, 1, c * v);
+            dueEntry(x, 0, 0, LEAK + c * f[0] + 1.0);
+        }
+        due(10, "the last was a long one", h1 > 8, true);
+    }
+
     // "STEPS till so much time (1 to 60) is gone, or more"
     private static void runOnBothSides() {
         for (int ticks : new int[] {Integer.MIN_VALUE, -60, -1, 0, 1, 2, 3, 4, 7, 8, 59, 60, 61, 62, Integer.MAX_VALUE}) {
@@ -489,6 +572,68 @@ public final class TimeEdgesTest extends Due {
         }
     }
 
+    // "NONE: that which it has": the METHOD, the TOLERANCE, the UNKNOWNS, the guesses and the ORDER as they are.
+    private static void aheadFromWhatThereIs() {
+        for (int m = 0; m < 3; m++) for (int tolerance : new int[] {1, 16, 1024}) {
+            StampedWires x = charged();
+            x.rest();
+            x.run(5);
+            x.method(m);
+            x.tolerance(tolerance);
+            dueAhead("by " + m + ", " + tolerance, x, 1, 30);
+        }
+        // A slow rise: a ROUND does for each STEP, if it begins with what there is.
+        StampedWires y = new StampedWires();
+        y.part(3, 1, 0, 1);
+        y.level(0, 5, 6);
+        y.times(0, 0, 999, 0, 0);
+        y.part(0, 1, 2, 3);
+        y.part(5, 2, 0, 64);
+        y.method(0);
+        y.rest();
+        y.step();
+        y.level(0, 5, 5);
+        int rounds = y.count(12);
+        for (int k = 0; k < 4; k++) dueAhead("of a JUNCTION " + k, y, 2, 1);
+        due(28, "few ROUNDS were enough", y.count(12) - rounds < 9, true);
+
+        // By the ORDER that was found for 3, NODE 1 is not just where one that is found for 569 has it.
+        StampedWires kept = byOrder(3), anew = byOrder(569);
+        kept.rest();
+        kept.value(4, 569);
+        anew.rest();
+        due(29, "shift(0, 1): the VALUE of a CURRENT does nothing, by one ORDER", kept.shift(0, 1), 0);
+        long told = ahead(kept, 1, 1, -1, 1);
+        kept.rest();
+        due(21, "count(13)", kept.count(13), 1);
+        due(23, "pivot(0, 1)", kept.pivot(0, 1), 0);
+        due(23, "pivot(0, 1)", anew.pivot(0, 1), 1);
+        due(28, "they differ", volt(kept, 1, 1) != volt(anew, 1, 1), true);
+        due(28, "ahead(1, 1, -1, 1) by the ORDER that there is", told, volt(kept, 1, 1));
+    }
+
+    private static StampedWires byOrder(int n) {
+        StampedWires x = new StampedWires();
+        x.part(4, 0, 1, 1);
+        x.level(0, 7, 7);
+        x.part(7, 1, 0, 256);
+        x.control(1, 2, 0);
+        x.part(0, 2, 0, 1);
+        x.part(0, 2, 0, 1);
+        x.part(0, 2, 1, n);
+        return x;
+    }
+
+    private static void dueAhead(String when, StampedWires x, int node, int ticks) {
+        long upper = ahead(x, node, ticks, -1, 0), lower = ahead(x, node, ticks, -1, 1);
+        int many = x.steps(ticks, 0), refused = x.steps(ticks, 2), taken = x.count(15), before = x.count(16);
+        x.run(ticks);
+        due(28, "ahead(" + node + ", " + ticks + ", -1, 0) " + when, upper, volt(x, node, 0));
+        due(28, "ahead(" + node + ", " + ticks + ", -1, 1) " + when, lower, volt(x, node, 1));
+        due(30, "steps(" + ticks + ", 0) " + when, many, x.count(15) - taken);
+        due(30, "steps(" + ticks + ", 2) " + when, refused, x.count(16) - before);
+    }
+
     private static void aheadTillOneFails() {
         for (int ticks = 1; ticks <= 8; ticks++) {
             StampedWires x = failsBehindFive();
@@ -507,6 +652,9 @@ public final class TimeEdgesTest extends Due {
             int due = !in(t, 1, 60) || !in(w, 0, 2) ? -1 : w == 2 ? 0 : t == 1 ? 1 : w == 0 ? 7 : 32;
             due(30, "steps(" + t + ", " + w + ")", x.steps(t, w), due);
         }
+        due(30, "steps(60, 1)", x.steps(60, 1), 32);
+        due(30, "steps(1, 1): not the longest of another time", x.steps(1, 1), 1);
+        due(30, "steps(5, 1)", x.steps(5, 1), 4);
     }
 
     private static void stepsTillOneFails() {
