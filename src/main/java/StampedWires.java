@@ -870,7 +870,7 @@ public final class StampedWires {
     private static final class Rounds {
         final Board board;
         final Solver solver;
-        final int[] counts;
+        final int[] counts = new int[COUNTERS];
         final Equations equations = new Equations();
         final Order order = new Order();
         final double[] x = new double[MOST_UNKNOWNS];
@@ -881,10 +881,9 @@ public final class StampedWires {
         double scale;
         int at;
 
-        Rounds(Board itsBoard, Solver itsSolver, int[] itsCounts) {
+        Rounds(Board itsBoard, Solver itsSolver) {
             board = itsBoard;
             solver = itsSolver;
-            counts = itsCounts;
         }
 
         void dropOrder() {
@@ -1048,7 +1047,7 @@ public final class StampedWires {
     private static final class Course {
         final Board board;
         final Rounds rounds;
-        final int[] counts = new int[COUNTERS];
+        final int[] counts;
         final State state = new State();
         int scheme = TRAPEZOID;
         int allowance = 16;
@@ -1061,7 +1060,8 @@ public final class StampedWires {
 
         Course(Board itsBoard, Solver solver) {
             board = itsBoard;
-            rounds = new Rounds(itsBoard, solver, counts);
+            rounds = new Rounds(itsBoard, solver);
+            counts = rounds.counts;
         }
 
         void reset() {

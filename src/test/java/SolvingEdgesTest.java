@@ -643,6 +643,13 @@ public final class SolvingEdgesTest extends Due {
         due(9, "rest() at -999", y.rest(), 2);
         dueCounts(21, "at -999", y, 9, 2, 0);
         dueCounts(21, "at -999", y, 12, 32, 1, 0, 0, 0, 0, 1, 32);
+        StampedWires z = new StampedWires();
+        z.part(0, 1, 0, 1);
+        z.part(3, 2, 0, 1);
+        z.level(1, -999, -999);
+        z.part(5, 2, 0, 64);
+        due(9, "rest() at -999", z.rest(), 2);
+        due(21, "count(10): NODE 1, though it never moved, not NODE 2, which did at first", z.count(10), 0);
     }
 
     // "so from 0 with SCALE 1 / 4, then from what came (guesses, too) with 2 / 4, 3 / 4, 1"; "what fails of these fails"

@@ -15,6 +15,7 @@ public final class TimeEdgesTest extends Due {
         forcedInTheLastStepThatWasTaken();
         oddStepsAreHalvedAndCut();
         stepRefusedDownToOneFails();
+        lastTryThatFailed();
         stepFailsAtOnce();
         freshIsAlwaysEuler();
         gearByUnlikeSteps();
@@ -268,6 +269,22 @@ public final class TimeEdgesTest extends Due {
         dueSteps("FRESH, then not", x, 1, 1);
         due(21, "count(11): 0 keeps to its bound, 2 and 3 do not", x.count(11), 2);
         due(21, "count(17)", x.count(17), 1);
+        // COILS and CAPACITORS by their numbers, whichever is first.
+        for (int first = 1; first <= 2; first++) {
+            StampedWires y = new StampedWires();
+            y.part(3, 1, 0, 1);
+            y.part(4, 0, 2, 1);
+            y.times(0, 9999, 1, 0, 0);
+            y.times(1, 9999, 1, 0, 0);
+            y.part(first, first, 0, 16);
+            y.part(3 - first, 3 - first, 0, 16);
+            y.rest();
+            y.level(0, 9, 9);
+            y.level(1, 9, 9);
+            dueSteps("FRESH, then not", y, 1, 1);
+            due(21, "count(11) of both", y.count(11), 2);
+            due(21, "count(17) of both", y.count(17), 1);
+        }
     }
 
     // "the PART that was FORCED first in the last STEP that was taken (NONE: none)"
@@ -354,6 +371,36 @@ public final class TimeEdgesTest extends Due {
             dueCounts(21, "behind it: STUCK at the current", x, 9, 2, 2);
             due(13, "volt(2, 1)", volt(x, 2, 1), volts);
         }
+    }
+
+    // "(TRIES, too: the last that failed in it; 0 if it was taken)"
+    private static void lastTryThatFailed() {
+        StampedWires x = gains();
+        x.value(1, 256);
+        x.value(2, 256);
+        // NODE 3 comes to 2 to the power of 60 at 12, the SWITCH closes at 11.
+        x.level(0, 0, 1);
+        x.times(0, 0, 12, 9, 0);
+        x.part(3, 4, 0, 1);
+        x.level(3, 900, 900);
+        x.times(3, 9999, 1, 0, 0);
+        x.part(6, 4, 5, 9999);
+        x.level(4, -10, 10);
+        x.times(4, 0, 20, 0, 0);
+        x.part(5, 5, 0, 64);
+        due(9, "rest()", x.rest(), 0);
+        dueSteps("up to 8", x, 1, 1, 2, 4);
+        dueSteps("4 is WILD, 2 is taken", x, 2);
+        dueCounts(21, "behind it", x, 9, 0, -1);
+        due(21, "count(16)", x.count(16), 1);
+        due(10, "step(): 2 is WILD, 1 is STUCK", x.step(), 0);
+        due(21, "count(9): STUCK", x.count(9), 2);
+        due(21, "count(16)", x.count(16), 2);
+        due(21, "count(3)", x.count(3), 10);
+        x.level(4, -10, -10);
+        due(10, "step() to 11", x.step(), 1);
+        due(10, "step() to 12: 1 is WILD", x.step(), 0);
+        dueCounts(21, "behind it", x, 9, 3, 2);
     }
 
     private static void stepFailsAtOnce() {
